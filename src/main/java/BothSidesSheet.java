@@ -30,7 +30,7 @@ public final class BothSidesSheet {
     private static final int KEPT = 20, DEEPEST = 20;
 
     private static final int TAPES = 6, ITEMS = 60;
-    private static final int NO_ROW = -1, BYTES = 0, SHORTS = 1, INTS = 2, LONGS = 3, BOOLEANS = 4;
+    private static final int NO_ROW = -1, BYTES = 0, SHORTS = 1, INTS = 2, BOOLEANS = 4;
     private static final int ROW_ENDS = 100;
 
     /**
@@ -481,21 +481,13 @@ public final class BothSidesSheet {
 
         /** One or two digits; -1 if there is none. */
         private int number() {
-            int n = digit();
-            if (n < 0) {
-                return -1;
+            int n = -1;
+            for (int i = 0; i < 2 && at < size && text[at] >= '0' && text[at] <= '9'; i++) {
+                int digit = text[at] - '0';
+                n = n < 0 ? digit : 10 * n + digit;
+                at++;
             }
-            at++;
-            int next = digit();
-            if (next < 0) {
-                return n;
-            }
-            at++;
-            return 10 * n + next;
-        }
-
-        private int digit() {
-            return at < size && text[at] >= '0' && text[at] <= '9' ? text[at] - '0' : -1;
+            return n;
         }
 
         private int sign() {
@@ -670,6 +662,7 @@ public final class BothSidesSheet {
             Arrays.fill(items, 0L);
         }
 
+        /** A sort that is none of these holds longs. */
         long asItem(long v) {
             switch (sort) {
                 case BYTES: return (byte) v;

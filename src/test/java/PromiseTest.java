@@ -288,6 +288,9 @@ public final class PromiseTest {
     private static void tests() {
         turns("p=3", 0, 0, "001000000000");
         turns("p<3", 0, 0, "110000000000");
+        turns("p<99", 0, 0, "111111111111");
+        turns("p>99", 0, 0, "000000000000");
+        turns("p<10", 0, 0, "111111111000");
         turns("p>10", 0, 0, "000000000011");
         turns("p=12|p=1", 0, 0, "100000000001");
         turns("o=1", 0, 0, "101010101010");
@@ -505,8 +508,23 @@ public final class PromiseTest {
         sides("lower", x, 1, 0, 0, 0, 2, 1);
         sides("lower head down", x, 3, 0, 0, 0, 1, 1);
         sides("upper head down", x, 2, 0, 0, 0, 1, 1);
+        leftOnes();
         runsToldAndSpoils();
         runEnds();
+    }
+
+    /** Those that are left keep their order, whatever is on them. */
+    private static void leftOnes() {
+        BothSidesSheet x = with(5, 0, 0, "till 24");
+        job(x, "till 2");
+        x.tray(4, 0);
+        x.run(0, 0);
+        sides("five", x, 0, 5, 4, 3, 2, 1);
+        due("two of them", x.run(0, 1), 2);
+        sides("left on top", x, 0, 3, 2, 1, 99, 99);
+        due("the two lowest", x.run(1, 1), 2);
+        sides("left on top, the others over", x, 0, 3, 2, 1, 0, 0);
+        sides("spoiled ones below", x, 1, 0, 0, 0, 99, 99);
     }
 
     private static void runsToldAndSpoils() {
@@ -707,6 +725,12 @@ public final class PromiseTest {
         due("flipping, nothing, plain", x.twice(2, 1, 0), 1);
         due("flipping twice, the pages the other way about", x.twice(1, 2, 0), 0);
         due("how many", x.twice(1, 2, 1), 1);
+        BothSidesSheet late = with(1, 5, 0, "skip k<3|k=5;from 2;till 2");
+        late.tray(3, 9);
+        late.tray(0, 0);
+        job(late, "skip !k=0;till 1");
+        due("the second, over, the third", late.twice(0, 1, 0), 112);
+        due("how many", late.twice(0, 1, 1), 1);
         due("count(0)", x.count(0), 1);
         due("blank still", x.told(2), 2);
     }
@@ -1073,6 +1097,49 @@ public final class PromiseTest {
         due("a new one's row", x.row(0, 0, 1), 0);
     }
 
+    private static void imagedRows() {
+        BothSidesSheet x = with(4, 1, 0, "till 4");
+        x.tray(0, 0);
+        x.see(3, 1, 1);
+        x.see(2, 1, 2);
+        x.plan(0, 1, 0);
+        x.plan(0, 1, 0);
+        x.book(0, 0, 0);
+        x.book(2, 0, 7);
+        x.image();
+        due("which", x.which(0), 1);
+        due("looked", x.looked(), 1);
+        due("done", x.done(1), 4);
+        x.see(-1, 0, 0);
+        x.see(1, 0, 9);
+        x.see(2, 0, 9);
+        x.plan(-1, 0, 0);
+        x.plan(1, 1, 0);
+        x.plan(2, 2, 0);
+        x.book(-1, 0, 0);
+        x.book(1, 1, 5);
+        x.book(1, 1, 0);
+        due("which", x.which(0), 0);
+        due("looked", x.looked(), 0);
+        due("done", x.done(1), 0);
+        x.undo();
+        due("which is as it was", x.which(0), 1);
+        due("looked is as it was", x.looked(), 1);
+        due("done is as it was", x.done(1), 4);
+        x.tray(2, 2);
+        x.run(2, 0);
+        x.undo();
+        x.tray(2, 2);
+        due("a new tray has not run", x.of(2, 2), 0);
+        x.image();
+        x.run(2, 0);
+        x.run(0, 0);
+        due("ran", x.of(2, 2), 1);
+        x.undo();
+        due("RAN is as it was", x.of(2, 2), 0);
+        due("RAN is as it was", x.of(0, 2), 0);
+    }
+
     private static void acts(int kind, int act, int x, int answer, int... bodies) {
         BothSidesSheet s = new BothSidesSheet();
         s.tray(0, 0);
@@ -1409,6 +1476,7 @@ public final class PromiseTest {
         promise29();
         promise30();
         promise31();
+        imagedRows();
         promise32();
         promise33();
         promise34();
