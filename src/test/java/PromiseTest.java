@@ -208,6 +208,8 @@ public final class PromiseTest {
         fault("till 1 ", 6);
         fault("till 123", 7);
         fault("till 1;", 7);
+        fault("till 1;til", 10);
+        fault("till 1;tik 1", 9);
         fault("till 1; till 2", 7);
         fault("till 1,till 2", 6);
         fault("skip 1", 5);
@@ -288,6 +290,8 @@ public final class PromiseTest {
     private static void tests() {
         turns("p=3", 0, 0, "001000000000");
         turns("p<3", 0, 0, "110000000000");
+        turns("p<0", 0, 0, "000000000000");
+        turns("!p<0", 0, 0, "111111111111");
         turns("p<99", 0, 0, "111111111111");
         turns("p>99", 0, 0, "000000000000");
         turns("p<10", 0, 0, "111111111000");
@@ -994,6 +998,14 @@ public final class PromiseTest {
         due("head down does not matter", x.looked(), 3);
         x.book(-1, 0, 0);
         due("no book", x.looked(), NOWHERE);
+        x.book(2, 0, 5);
+        x.book(0, 0, 1);
+        due("now there are three", x.looked(), NOWHERE);
+        x.empty();
+        due("now there is none", x.looked(), 0);
+        x.book(-1, 0, 0);
+        x.book(2, 0, 0);
+        due("nothing is on it", x.looked(), NOWHERE);
     }
 
     private static void promise29() {
@@ -1210,6 +1222,7 @@ public final class PromiseTest {
         x.act(0, 0, 0);
         due("of the latest alone", x.trace(0), 71);
         due("of the latest alone", x.trace(2), NONE);
+        due("of the latest alone", x.trace(5), NONE);
     }
 
     private static void promise34() {
@@ -1278,6 +1291,7 @@ public final class PromiseTest {
         due("nothing", x.tape(1, -1, MIN), 1);
         due("nothing there", x.item(1, 0, 0), NOTHING);
         due("nothing there", x.read(1, 59), NO);
+        due("nothing there", x.read(1, 0), NO);
     }
 
     private static void promise37() {
