@@ -4,7 +4,8 @@ import java.util.Random;
 
 /** Long random runs of calls, each answered by the program and by the model. Seeds are fixed. */
 public final class ModelTest {
-    private static final int CALLS = 512;
+    /** Of 512 calls; the longest step and what looks at the whole come behind them yet. */
+    private static final int CALLS = 512 - 110 - 90;
     private static final int[] EDGES = {Integer.MIN_VALUE, Integer.MIN_VALUE + 1, -100, -13, -1, 0,
         1, 99, 100, 101, 127, 128, Integer.MAX_VALUE - 1, Integer.MAX_VALUE};
 
@@ -115,7 +116,7 @@ public final class ModelTest {
                 s.setLength(Math.max(1, at));
             }
         }
-        return s.toString();
+        return s.substring(0, Math.min(s.length(), 104));
     }
 
     /** Jobs by which sheets become right: the one half of the pages, then the other. */
@@ -380,7 +381,7 @@ public final class ModelTest {
     }
 
     public static void main(String[] args) {
-        int runs = args.length > 0 ? Integer.parseInt(args[0]) : 1500;
+        int runs = args.length > 0 ? Integer.parseInt(args[0]) : 2500;
         for (long seed = 1; seed <= runs && Due.allRight(); seed++) {
             ModelTest run = new ModelTest(seed);
             run.go();

@@ -54,7 +54,7 @@ public final class PromiseTest {
         }
     }
 
-    /** All that calls can tell of one object, in one text. */
+    /** All that calls can tell of one object, in one text: so few that there is room for it twice. */
     private static String all(BothSidesSheet x) {
         StringBuilder s = new StringBuilder();
         for (int i = 0; i < 8; i++) {
@@ -69,7 +69,7 @@ public final class PromiseTest {
             s.append(x.of(i, 0)).append(x.of(i, 1)).append(x.of(i, 2)).append(' ');
             s.append(x.jobs(i, 0)).append(' ').append(x.jobs(i, 1)).append(' ');
             s.append(x.which(i)).append(' ');
-            for (int k = 0; k < 61; k++) {
+            for (int k : new int[] {0, 1, 2, 3, 8, 9, 59, 60}) {
                 s.append(x.read(i, k)).append(' ');
             }
         }
@@ -1378,10 +1378,9 @@ public final class PromiseTest {
         due("to itself", x.shift(0, 0, 0, 0, 6), 6);
     }
 
-    /** Every refused and every asking call on one full object: nothing is otherwise behind them. */
-    private static void nothingChanges() {
+    /** Something of each, and no room for sheets and trays. */
+    private static BothSidesSheet filled() {
         BothSidesSheet x = five(12);
-        x.undo();
         x.see(0, 0, 0);
         x.plan(0, 1, 1);
         x.book(0, 0, 0);
@@ -1390,68 +1389,79 @@ public final class PromiseTest {
         x.item(0, 3, 7);
         x.act(4, 2, 9);
         x.run(1, 0);
-        String was = all(x);
-        int[] some = {MIN, -7, -3, 12, 13, 61, 128, MAX};
-        for (int n : some) {
-            x.tray(n, 0);
-            x.tray(0, n);
-            x.row(n, 0, 1);
-            x.row(0, n, 1);
-            x.row(3, 0, n);
-            x.feed(n > 0 && n < 128 ? -n : n);
-            x.load(n);
-            x.turn(n);
-            x.run(n, 0);
-            x.run(0, n);
-            x.see(n, 0, 1);
-            x.see(0, n, 1);
-            x.see(0, 0, -Math.abs(n));
-            x.plan(n, 0, 0);
-            x.plan(0, n, 0);
-            x.plan(0, 0, n);
-            x.plan(1, n, 0);
-            x.plan(2, -Math.abs(n), 0);
-            x.book(n, 0, 1);
-            x.book(0, n, 1);
-            x.book(0, 0, -Math.abs(n));
-            x.tape(n, 0, 1);
-            x.tape(0, n, 1);
-            x.tape(0, 0, n > 0 ? MAX : n);
-            x.item(n, 0, 1);
-            x.item(0, n > 0 && n < 9 ? 9 : n, 1);
-            x.shift(n, 0, 0, 0, 1);
-            x.shift(0, 0, n, 0, 1);
-            x.shift(0, 8, 0, 1, 2);
-            x.shift(0, 3, 1, 0, 2);
-            x.undo();
-        }
-        x.load(1);
-        x.tray(1, 1);
-        Due.holds("a refused call changes nothing", all(x).equals(was));
-        askAll(x);
-        Due.holds("what is asked changes nothing", all(x).equals(was));
+        return x;
     }
 
-    private static void askAll(BothSidesSheet x) {
-        for (int i = -1; i < 7; i++) {
-            for (int k = -1; k < 3; k++) {
-                x.after(i, k, 0);
-                x.uses(i, k);
-                x.can(i, k, 0);
-                x.twice(i, k, 0);
-                x.odds(k, i, 0);
-                x.way(i, k, i, 1, 0);
-                x.taken(i, k);
-                x.judge(i, k);
-                x.find(i);
-            }
-            x.best(i);
-            x.which(i);
-            x.mean(i, 0);
-            x.done(i);
-            x.looked();
-            x.trace(i);
+    /** Every refused and every asking call: nothing is otherwise behind them. */
+    private static void nothingChanges() {
+        String was = all(filled());
+        int[] some = {MIN, -7, -3, 12, 13, 61, 128, MAX};
+        for (int n : some) {
+            BothSidesSheet x = filled();
+            refuseAll(x, n);
+            Due.holds("what is refused of " + n + " changes nothing", all(x).equals(was));
         }
+        for (int i = -1; i < 7; i++) {
+            BothSidesSheet x = filled();
+            askAll(x, i);
+            Due.holds("what is asked of " + i + " changes nothing", all(x).equals(was));
+        }
+    }
+
+    private static void refuseAll(BothSidesSheet x, int n) {
+        x.load(1);
+        x.tray(1, 1);
+        x.undo();
+        x.tray(n, 0);
+        x.tray(0, n);
+        x.row(n, 0, 1);
+        x.row(0, n, 1);
+        x.row(3, 0, n);
+        x.feed(n > 0 && n < 128 ? -n : n);
+        x.load(n);
+        x.turn(n);
+        x.run(n, 0);
+        x.run(0, n);
+        x.see(n, 0, 1);
+        x.see(0, n, 1);
+        x.see(0, 0, -Math.abs(n));
+        x.plan(n, 0, 0);
+        x.plan(0, n, 0);
+        x.plan(0, 0, n);
+        x.plan(1, n, 0);
+        x.plan(2, -Math.abs(n), 0);
+        x.book(n, 0, 1);
+        x.book(0, n, 1);
+        x.book(0, 0, -Math.abs(n));
+        x.tape(n, 0, 1);
+        x.tape(0, n, 1);
+        x.tape(0, 0, n > 0 ? MAX : n);
+        x.item(n, 0, 1);
+        x.item(0, n > 0 && n < 9 ? 9 : n, 1);
+        x.shift(n, 0, 0, 0, 1);
+        x.shift(0, 0, n, 0, 1);
+        x.shift(0, 8, 0, 1, 2);
+        x.shift(0, 3, 1, 0, 2);
+    }
+
+    private static void askAll(BothSidesSheet x, int i) {
+        for (int k = -1; k < 3; k++) {
+            x.after(i, k, 0);
+            x.uses(i, k);
+            x.can(i, k, 0);
+            x.twice(i, k, 0);
+            x.odds(k, i, 0);
+            x.way(i, k, i, 1, 0);
+            x.taken(i, k);
+            x.judge(i, k);
+            x.find(i);
+        }
+        x.best(i);
+        x.which(i);
+        x.mean(i, 0);
+        x.done(i);
+        x.looked();
+        x.trace(i);
     }
 
     public static void main(String[] args) {
